@@ -32,6 +32,10 @@ public final class PromisesTest {
         keepStaysBehindExclusion();
         excludedByStagesAndLot();
         moreThanSeats();
+        quotaExactly();
+        keepOfNoVotes();
+        keepRoundedUp();
+        countAfterEachChange();
         votesOfNothing();
         elected();
         ranked();
@@ -539,6 +543,115 @@ public final class PromisesTest {
         due("the other lot", 2, order.elected(0));
     }
 
+    /** Numbers at which six HOPEFUL ones have QUOTA to the millionth, and five SEATS are left. */
+    private static void quotaExactly() {
+        check.about("QUOTA exactly, of more than there are SEATS left");
+        KeepCount x = with(8, 123, 1, 124, 1, 125, 1, 126, 1, 127, 1, 128, 1, 3, 1, 4, 1, 5, 1, 6, 1, 7, 1, 8, 1, 1, 1);
+        x.set(0, 7);
+        x.set(1, 0);
+        due("QUOTA", 1527273, x.amount(2, 0));
+        for (int c = 2; c < 8; c++) {
+            due("VOTES of " + c, 1527273, x.votes(2, c, 0));
+        }
+        due("one ELECTED has less", 1527270, x.votes(2, 1, 0));
+        due("which counts 0 in SURPLUS", 1, x.amount(2, 2));
+        due("those ahead in the lot", 4 + 8 + 16 + 32 + 64, x.stageOf(2, 2));
+        due("7 are ELECTED", 7, x.told(6));
+        due("the last is HOPEFUL", 1, x.of(7, 0));
+        x.swap(3, 7);
+        due("those ahead in the other lot", 4 + 16 + 32 + 64 + 128, x.stageOf(2, 2));
+        due("second of them", 7, x.elected(3));
+        KeepCount y = with(7, 3425, 1, 3426, 1, 3427, 1, 1425, 1, 1426, 1, 1427, 1, 24, 1);
+        y.set(0, 6);
+        y.set(1, 0);
+        due("QUOTA", 907122, y.amount(3, 0));
+        due("VOTES", 907122, y.votes(3, 6, 0));
+        due("two of three", 16 + 32, y.stageOf(3, 2));
+        due("SURPLUS", 0, y.amount(3, 2));
+        due("ROUNDS", 11, y.stageOf(3, 0));
+    }
+
+    private static void keepOfNoVotes() {
+        check.about("KEEP of an ELECTED one without VOTES is as it is");
+        KeepCount x = with(7, 752, 1, 72, 1);
+        x.set(0, 6);
+        x.set(1, 0);
+        due("ROUNDS", 20, x.stageOf(2, 0));
+        due("VOTES", 0, x.votes(2, 1, 0));
+        due("KEEP", 1, x.votes(2, 1, 1));
+        due("QUOTA", 1, x.amount(2, 0));
+        due("EXCESS", 1999997, x.amount(2, 1));
+        due("excluded", 5, x.stageOf(2, 1));
+    }
+
+    private static void keepRoundedUp() {
+        check.about("KEEP rounded up");
+        KeepCount x = with(4, 1, 1);
+        x.set(0, 2);
+        x.set(1, 0);
+        x.set(2, 1);
+        due("QUOTA of 0", 333334, x.amount(0, 0));
+        due("nothing to round", 333334, x.votes(1, 0, 1));
+        x.set(2, 2);
+        due("nothing to round once more", 111112, x.votes(1, 0, 1));
+        x.many(0, 3);
+        x.set(2, 1);
+        // 1000000 * 1000001 / 3000000 = 333333.7
+        due("rounded up", 333334, x.votes(1, 0, 1));
+        x.many(0, 2);
+        // 1000000 * 666667 / 2000000 = 333333.5
+        due("rounded up from a half", 333334, x.votes(1, 0, 1));
+        x.ballot(2, 1);
+        // 1000000 * 1000001 / 2000000 = 500000.5
+        due("rounded up to less", 500001, x.votes(1, 0, 1));
+    }
+
+    /** What was asked ahead of a change must not be told behind it. */
+    private static void countAfterEachChange() {
+        check.about("the count follows each change");
+        KeepCount x = with(2, 1, 5, 2, 7);
+        due("at first", 2, x.told(7));
+        x.ballot(1, 3);
+        due("ballot", 1, x.told(7));
+        x.drop();
+        due("drop", 2, x.told(7));
+        x.many(0, 8);
+        due("many", 1, x.told(7));
+        x.gone(0, true);
+        due("gone", 2, x.told(7));
+        x.gone(0, false);
+        due("not gone", 1, x.told(7));
+        x.set(0, 2);
+        due("SEATS", 3, x.told(7));
+        x.candidate();
+        due("candidate", 3, x.told(0));
+        due("its VOTES", 0, x.votes(0, 2, 0));
+        x.set(0, 3);
+        due("SEATS", 7, x.told(7));
+        x.image();
+        x.set(0, 1);
+        due("SEATS", 1, x.told(7));
+        x.undo();
+        due("undo", 7, x.told(7));
+        KeepCount lot = with(2);
+        due("the lot", 1, lot.told(7));
+        lot.swap(0, 1);
+        due("swap", 2, lot.told(7));
+        KeepCount limit = with(4, 1, 60, 2, 5, 3, 4, 4, 3);
+        limit.set(0, 2);
+        due("ROUNDS at first", 1, limit.stageOf(1, 0) > 2 ? 1 : 0);
+        limit.set(2, 2);
+        due("ROUNDS", 2, limit.stageOf(1, 0));
+        limit.set(1, 1000000000);
+        due("LIMIT", 1, limit.stageOf(1, 0));
+        KeepCount text = with(2, 1, 5, 2, 7);
+        due("THE TEXT", 2, text.told(7));
+        readText(text, "b1*9");
+        due("read", 1, text.told(7));
+        due("what would be changes nothing", 2, text.without(0));
+        due("what would be changes nothing", 1, text.told(7));
+    }
+
     private static void votesOfNothing() {
         check.about("no votes");
         KeepCount x = with(3);
@@ -722,6 +835,15 @@ public final class PromisesTest {
         due("whole row", 2, y.raised(0, 1));
         due("from the end", 1, y.raised(0, 0));
         due("from the middle", 8, y.raised(0, 3));
+        // Raised, 3 is excluded first, and what it had goes on to 1, which stands ahead of 2.
+        KeepCount z = with(4, 234, 3, 2, 4, 3, 5);
+        due("the others as they stand", 2, z.raised(0, 3));
+        KeepCount first = with(4, 134, 3, 1, 4, 3, 5);
+        due("the others as they stand", 1, first.raised(0, 3));
+        KeepCount eight = with(8, 87654321, 5, 1, 4);
+        due("eight of them", 64, eight.raised(0, 6));
+        eight.gone(6, true);
+        due("a gone one is left out", 128, eight.raised(0, 6));
     }
 
     private static void needs() {
@@ -759,6 +881,16 @@ public final class PromisesTest {
         due("TROUBLE is as it was", LACKS, x.cause(0, 0));
         x.many(0, 1000);
         due("not OVER", 1, x.needs(1, 1001));
+        // 4611686 is what there may be, and 10000 more come to just that.
+        KeepCount edge = with(3, 1, 1000000, 1, 1000000, 1, 300843, 2, 1000000, 2, 1000000, 2, 300843);
+        due("like ones, the lot", 1, edge.told(7));
+        due("as many as there may be", 1, edge.needs(1, 10000));
+        due("the next ones would be OVER", LACKS, edge.needs(2, 10000));
+        edge.ballot(3, 1);
+        due("1 more", LACKS, edge.needs(1, 10000));
+        due("elected already, OVER or not", 0, edge.needs(0, 10000));
+        due("9999", 1, edge.needs(1, 9999));
+        due("TROUBLE is as it was", LACKS, edge.cause(0, 0));
         KeepCount full = with(2);
         for (int b = 0; b < 24; b++) {
             full.ballot(1, 10);
@@ -1088,6 +1220,38 @@ public final class PromisesTest {
         due("image()", 1, x.image());
         x.drop();
         due("undo()", 1, x.undo());
+        undoOfRows();
+    }
+
+    /** Rows that come behind an image, in the places of those that it holds. */
+    private static void undoOfRows() {
+        KeepCount x = with(3, 12, 5, 23, 9, 31, 4);
+        x.see(1, true);
+        x.see(2, false);
+        x.event(0, 1);
+        x.event(2, 2);
+        due("image()", 3, x.image());
+        due("fits(0)", 1, x.fits(0) > 0 ? 1 : 0);
+        int least = x.fits(1);
+        int many = x.fits(0);
+        int after = x.after();
+        x.see(-1, true);
+        x.see(0, true);
+        x.see(0, false);
+        x.event(-1, 0);
+        x.event(1, 2);
+        x.event(3, 0);
+        due("fits(1)", LACKS, x.fits(1));
+        x.drop();
+        x.drop();
+        x.drop();
+        x.ballot(3, 7);
+        due("undo()", 3, x.undo());
+        due("fits(1)", least, x.fits(1));
+        due("fits(0)", many, x.fits(0));
+        due("after()", after, x.after());
+        due("MANY", 5, x.ballotOf(0, 0));
+        due("row", 1, x.rowOf(0, 1));
     }
 
     private static void count() {
