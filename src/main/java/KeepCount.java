@@ -899,12 +899,23 @@ public final class KeepCount {
         void suffer(int what, int n) {
             if (what == SEATS_ARE) {
                 seats = n;
-            } else if (hasCandidate(n)) {
-                if (what == LOSES_BALLOTS) {
+                return;
+            }
+            if (!hasCandidate(n)) {
+                return;
+            }
+            switch (what) {
+                case IS_GONE:
+                    away[n] = true;
+                    break;
+                case IS_NOT_GONE:
+                    away[n] = false;
+                    break;
+                case LOSES_BALLOTS:
                     emptyLedBy(n);
-                } else {
-                    away[n] = what == IS_GONE;
-                }
+                    break;
+                default:
+                    break;
             }
         }
 
