@@ -1093,7 +1093,7 @@ public final class KeepCount {
         /** What a PILE brings goes through its ROW: what is left behind the last. */
         private long passOn(int row, long brought) {
             long left = brought;
-            for (int i = 0; i < MOST_CANDIDATES; i++) {
+            for (int i = 0; i < MOST_CANDIDATES && left > 0; i++) {
                 int c = Row.at(row, i);
                 if (c < 0 || c >= MOST_CANDIDATES) {
                     return left;

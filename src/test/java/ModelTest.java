@@ -11,7 +11,8 @@ public final class ModelTest {
 
     /**
      * Of each how many CANDIDATES, SEATS, LIMIT, then ROWS and MANY: found by long search, as chance hardly
-     * comes to QUOTA exactly (for more than there are SEATS left, too) or an ELECTED one without VOTES.
+     * comes to QUOTA exactly (for more than there are SEATS left, too), an ELECTED one without VOTES or with 1, or
+     * one whose KEEP would go beyond 1000000. The last one has 24 PILES.
      */
     private static final int[][] RARE = {
         {8, 7, 0, 123, 1, 124, 1, 125, 1, 126, 1, 127, 1, 128, 1, 3, 1, 4, 1, 5, 1, 6, 1, 7, 1, 8, 1, 1, 1},
@@ -24,7 +25,13 @@ public final class ModelTest {
         {8, 6, 0, 2, 2, 8542, 2, 4583, 1, 375, 2, 54, 2, 821, 1, 324, 1, 21, 1},
         {5, 4, 0, 314, 1, 23, 2, 125, 1},
         {6, 4, 17, 421, 1, 4316, 2, 54, 1, 265, 1, 4, 1, 614, 1, 253, 2},
-        {8, 7, 16, 138, 1, 238, 1, 436, 1}};
+        {8, 7, 16, 138, 1, 238, 1, 436, 1},
+        {7, 6, 0, 3425, 1, 42, 1, 3427, 2, 1425, 1, 1426, 2, 24, 1},
+        {7, 6, 0, 214, 1, 215, 1, 217, 2, 432, 1, 532, 1, 632, 1, 732, 1, 235, 1, 236, 2, 237, 1},
+        {8, 5, 0, 317, 2, 37, 1},
+        {4, 3, 17, 34, 1, 34, 1},
+        {8, 1, 1000, 12, 2, 13, 2, 14, 2, 15, 2, 16, 2, 17, 2, 18, 2, 21, 2, 23, 2, 24, 2, 25, 2, 26, 2, 27, 2, 28, 2,
+            31, 2, 32, 2, 34, 2, 35, 2, 36, 2, 37, 2, 38, 2, 41, 2, 42, 2, 43, 2}};
 
     private final Check check;
     private final Random random;
