@@ -268,6 +268,10 @@ public final class BoundsTest {
         due("of(1, 3) of none", 0, x.of(1, 3));
         due("preferred(1, 0) of none", 0, x.preferred(1, 0));
         due("PILES", 1, x.told(8));
+        KeepCount room = Made.candidates(2);
+        Made.ballots(room, 1, 1000000, 1, 1000000, 2, 1000000, 2, 999999, 1, 611686);
+        due("drop()", 4, room.drop());
+        due("the dropped one takes no room", 1, room.needs(1, 10000));
     }
 
     /** "SEATS (1 .. 7; 1 at first), LIMIT (0 .. 1000000000; 1000 at first), ROUNDS (1 .. 20; 20 at first)". */

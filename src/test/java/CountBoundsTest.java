@@ -22,6 +22,7 @@ public final class CountBoundsTest {
         keepAtMostWhole();
         keepOfOneMillionth();
         cutByEachPile();
+        theLastMillionth();
         excess();
         surplusCountsFromZero();
         limit();
@@ -260,6 +261,18 @@ public final class CountBoundsTest {
         two.gone(4, true);
         due("of unlike ROWS, like by then", 1, two.told(8));
         due("VOTES of 3", 11, two.votes(2, 3, 0));
+    }
+
+    /** "the rest goes on", be it 1 millionth. */
+    private static void theLastMillionth() {
+        check.about("1 millionth goes on");
+        KeepCount x = with(4, 2, 1000000000, 12, 1, 1, 333332, 2, 333332, 3, 333332, 4, 1);
+        due("QUOTA", 333332666667L, x.amount(0, 0));
+        due("0 alone has it", 1, x.stageOf(0, 2));
+        // 1000000 * 333332666667 / 333333000000, with nothing to round
+        due("KEEP", 999999, x.votes(1, 0, 1));
+        votes(x, 1, 333333L * 999999, 333332000001L, 333332000000L, WHOLE);
+        due("EXCESS", 333332, x.amount(1, 1));
     }
 
     /** "what is left behind the last is EXCESS". */
