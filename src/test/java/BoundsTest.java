@@ -810,6 +810,13 @@ public final class BoundsTest {
         y.event(1, 0);
         due("and it stays lost", 2, y.after());
         due("MANY are as they were", 900, y.ballotOf(23, 0));
+        KeepCount z = Made.candidates(3);
+        Made.ballots(z, 12, 900, 2, 1, 3, 1);
+        z.event(3, 0);
+        z.event(0, 0);
+        due("0 to those that are like by then", 2, z.after());
+        z.swap(1, 2);
+        due("0, so THE LOT", 4, z.after());
     }
 
     /** "A sign (0 .. 127)"; "bytes, 100 at most". */
